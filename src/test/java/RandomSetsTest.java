@@ -1,0 +1,104 @@
+import java.util.Random;
+
+/** SETS and LAYOUTS (promises 2 to 9) beside the model, over many random SETS of several kinds. */
+public final class RandomSetsTest {
+    private static final Checks CHECKS = new Checks();
+    private static RummyTable real;
+    private static Model model;
+
+    public static void main(String[] args) {
+        Random random = new Random(20261116);
+        for (int round = 0; round < 400; round++) {
+            real = new RummyTable();
+            model = new Model();
+            for (int i = 0; i < 12; i++) {
+                setsRound(random, round);
+            }
+        }
+        CHECKS.finish();
+    }
+
+    private static void setsRound(Random random, int round) {
+        long set = someSet(random, round);
+        CHECKS.due("ways(" + set + ")", model.ways(set), real.ways(set));
+        askStatus();
+        CHECKS.due("layout(" + set + ")", model.layout(set), real.layout(set));
+        askStatus();
+        askLayout("layout(" + set + ")");
+        CHECKS.due("worth(" + set + ")", model.worth(set), real.worth(set));
+        askStatus();
+        long must = random.nextInt(3) == 0 ? 0 : someSet(random, round);
+        long may = someSet(random, round);
+        if (random.nextInt(20) != 0) {
+            may &= ~must;
+        }
+        int aim = random.nextInt(30) == 0 ? random.nextInt() : random.nextInt(2);
+        String call = "best(" + must + ", " + may + ", " + aim + ")";
+        CHECKS.due(call, model.best(must, may, aim), real.best(must, may, aim));
+        askStatus();
+        askLayout(call);
+    }
+
+    private static void askStatus() {
+        CHECKS.due("status()", model.status, real.status());
+    }
+
+    private static void askLayout(String after) {
+        for (int card = -1; card <= 54; card++) {
+            CHECKS.due(after + " place(" + card + ")", model.place(card), real.place(card));
+            CHECKS.due(after + " stands(" + card + ")", model.stands(card), real.stands(card));
+        }
+        for (int what = -1; what <= 7; what++) {
+            CHECKS.due(after + " shows(" + what + ")", model.shows(what), real.shows(what));
+        }
+    }
+
+    /** Melds thrown together, random CARDS, or CARDS of a few NUMBERS; JOKERS now and then. */
+    private static long someSet(Random random, int round) {
+        long set = 0;
+        int kind = random.nextInt(4);
+        if (kind == 0) {
+            int many = random.nextInt(9);
+            for (int i = 0; i < many; i++) {
+                set |= 1L << random.nextInt(52);
+            }
+        } else if (kind == 1) {
+            int low = random.nextInt(10);
+            int many = random.nextInt(13);
+            for (int i = 0; i < many; i++) {
+                set |= 1L << (4 * low + random.nextInt(16));
+            }
+        } else {
+            set = someMelds(random, 1 + random.nextInt(5));
+            if (random.nextInt(2) == 0 && set != 0) {
+                set &= ~(1L << random.nextInt(52));
+            }
+        }
+        int jokers = random.nextInt(6);
+        if (jokers < 4) {
+            set |= (long) jokers << 52;
+        }
+        if (random.nextInt(60) == 0) {
+            set |= 1L << (54 + random.nextInt(10));
+        }
+        return set;
+    }
+
+    private static long someMelds(Random random, int many) {
+        long set = 0;
+        for (int i = 0; i < many; i++) {
+            if (random.nextBoolean()) {
+                int number = random.nextInt(13);
+                set |= (15L & ~(random.nextBoolean() ? 0 : 1 << random.nextInt(4))) << (4 * number);
+            } else {
+                int length = 3 + random.nextInt(4);
+                int low = random.nextInt(14 - length);
+                int colour = random.nextInt(4);
+                for (int k = 0; k < length; k++) {
+                    set |= 1L << (4 * (low + k) + colour);
+                }
+            }
+        }
+        return set;
+    }
+}
