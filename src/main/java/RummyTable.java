@@ -419,6 +419,7 @@ public final class RummyTable {
         private int jokers;
         private boolean counting;
         private boolean byWorth;
+        private int unit;
 
         Walk(int[] steps) {
             this.steps = steps;
@@ -550,6 +551,7 @@ public final class RummyTable {
         private void gatherFitting(int number) {
             int needed = Card.coloursOf(must, number);
             int free = Card.coloursOf(may, number);
+            unit = byWorth ? Card.worthOfNumber(number) : 1;
             fits = 0;
             for (int i = 0; i < steps.length && fits < STEPS; i++) {
                 int shown = Step.shown(steps[i]);
@@ -579,8 +581,7 @@ public final class RummyTable {
         }
 
         private long gainOf(int number, int colours) {
-            long value = byWorth ? Card.worthOfNumber(number) : 1;
-            long gain = value * Integer.bitCount(colours) << VALUE_SHIFT;
+            long gain = (long) unit * Integer.bitCount(colours) << VALUE_SHIFT;
             for (int colour = 0; colour < COLOURS; colour++) {
                 if (((colours >> colour) & 1) != 0) {
                     gain |= 1L << (NUMBERED - COLOURS * number - colour);
@@ -760,7 +761,7 @@ public final class RummyTable {
             long s = seed;
             for (int i = CARDS - 1; i >= 1; i--) {
                 s = FACTOR * s % MODULUS;
-                int j = (int) Math.floorMod(s, (long) (i + 1));
+                int j = (int) (s % (i + 1));
                 int card = pack[i];
                 pack[i] = pack[j];
                 pack[j] = card;

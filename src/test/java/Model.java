@@ -1,5 +1,7 @@
 import java.util.ArrayList;
+import java.util.HashMap;
 import java.util.List;
+import java.util.Map;
 
 /**
  * The document once more, as plainly as it can be: every LAYOUT is tried, meld by meld. It shares
@@ -53,6 +55,35 @@ final class Model {
         return melds;
     }
 
+    /** What is found in all LAYOUTS behind a point: how many, the first, and the BEST part. */
+    private static final class Found {
+        long count = 0;
+        int[] first = null;
+        int value = -1;
+        long part = 0;
+
+        void offer(Found rest, int[] meld, long taken, int aim) {
+            if (rest.count == 0) {
+                return;
+            }
+            count += rest.count;
+            int[] places = rest.first.clone();
+            for (int i = 0; meld != null && i < meld.length; i++) {
+                places[meld[i]] = meld[1] / 4 == meld[0] / 4 ? 1 : i == 0 ? 2 : 3;
+            }
+            if (first == null || isAhead(places, first)) {
+                first = places;
+            }
+            int more = rest.value + (aim == 0 ? Long.bitCount(taken) : worthOf(taken));
+            if (more > value || more == value && isFirst(taken | rest.part, part)) {
+                value = more;
+                part = taken | rest.part;
+            }
+        }
+    }
+
+    private record Point(int card, long covered, int jokers) { }
+
     /** Goes through all LAYOUTS that show all of 'must' and, besides, of 'may' or by JOKERS what they like. */
     private static final class Tries {
         final long must;
@@ -60,11 +91,8 @@ final class Model {
         final int least;
         final int most;
         final int aim;
-        final int[] at = new int[52];
-        long count = 0;
-        int[] first = null;
-        long bestPart = 0;
-        int bestValue = -1;
+        final Map<Point, Found> known = new HashMap<>();
+        final Found all;
 
         Tries(long must, long may, int aim) {
             this.must = must;
@@ -72,88 +100,70 @@ final class Model {
             this.aim = aim;
             least = Long.bitCount(must >>> 52);
             most = least + Long.bitCount(may >>> 52);
+            all = from(0, 0, 0);
         }
 
-        void from(int card, int jokers, long taken) {
+        /** From a card on, with the cards of melds begun before it covered, and so many jokers used. */
+        private Found from(int card, long covered, int jokers) {
             if (card == 52) {
-                found(jokers, taken);
-                return;
+                return atEnd(jokers);
             }
-            if (at[card] != 0) {
-                from(card + 1, jokers, taken);
-                return;
+            if ((covered >>> card & 1) != 0) {
+                return from(card + 1, covered & ~(1L << card), jokers);
             }
-            if ((must >>> card & 1) == 0) {
-                from(card + 1, jokers, taken);
-            }
-            boolean there = ((must | may) >>> card & 1) != 0;
-            if (!there && jokers == most) {
-                return;
-            }
-            for (int[] meld : MELDS.get(card)) {
-                if (isFree(meld)) {
-                    boolean group = meld[1] / 4 == meld[0] / 4;
-                    for (int i = 0; i < meld.length; i++) {
-                        at[meld[i]] = group ? 1 : i == 0 ? 2 : 3;
-                    }
-                    fill(meld, 0, card, jokers, taken);
-                    for (int c : meld) {
-                        at[c] = 0;
-                    }
+            Point point = new Point(card, covered, jokers);
+            Found found = known.get(point);
+            if (found == null) {
+                found = new Found();
+                if ((must >>> card & 1) == 0) {
+                    found.offer(from(card + 1, covered, jokers), null, 0, aim);
                 }
+                for (int[] meld : MELDS.get(card)) {
+                    fill(found, meld, 0, covered, jokers, 0);
+                }
+                known.put(point, found);
             }
+            return found;
         }
 
-        private boolean isFree(int[] meld) {
-            int missing = 0;
-            for (int c : meld) {
-                if (at[c] != 0) {
-                    return false;
-                }
-                missing += ((must | may) >>> c & 1) == 0 ? 1 : 0;
-            }
-            return missing <= most;
-        }
-
-        private void fill(int[] meld, int i, int card, int jokers, long taken) {
+        private void fill(Found found, int[] meld, int i, long covered, int jokers, long taken) {
             if (i == meld.length) {
-                from(card + 1, jokers, taken);
+                found.offer(from(meld[0], covered, jokers), meld, taken, aim);
                 return;
             }
             int c = meld[i];
+            if ((covered >>> c & 1) != 0) {
+                return;
+            }
+            long now = covered | 1L << c;
             if ((must >>> c & 1) != 0) {
-                fill(meld, i + 1, card, jokers, taken);
+                fill(found, meld, i + 1, now, jokers, taken);
                 return;
             }
             if ((may >>> c & 1) != 0) {
-                fill(meld, i + 1, card, jokers, taken | 1L << c);
+                fill(found, meld, i + 1, now, jokers, taken | 1L << c);
             }
             if (jokers < most) {
-                fill(meld, i + 1, card, jokers + 1, taken);
+                fill(found, meld, i + 1, now, jokers + 1, taken);
             }
         }
 
-        private void found(int jokers, long taken) {
+        private Found atEnd(int jokers) {
+            Found found = new Found();
             if (jokers < least) {
-                return;
+                return found;
             }
-            count++;
-            if (first == null || isAhead(at, first)) {
-                first = at.clone();
-            }
-            long part = taken;
+            found.count = 1;
+            found.first = new int[52];
             int more = jokers - least;
             for (int c = 52; c < 54 && more > 0; c++) {
                 if ((may >>> c & 1) != 0) {
-                    part |= 1L << c;
+                    found.part |= 1L << c;
                     more--;
                 }
             }
-            int value = aim == 0 ? Long.bitCount(part) : worthOf(part);
-            if (value > bestValue || value == bestValue && isFirst(part, bestPart)) {
-                bestValue = value;
-                bestPart = part;
-            }
+            found.value = aim == 0 ? Long.bitCount(found.part) : worthOf(found.part);
+            return found;
         }
     }
 
@@ -187,10 +197,8 @@ final class Model {
         return sum;
     }
 
-    private static Tries triesOf(long set) {
-        Tries tries = new Tries(set, 0, 0);
-        tries.from(0, 0, 0);
-        return tries;
+    private static Found layoutsOf(long set) {
+        return new Tries(set, 0, 0).all;
     }
 
     static boolean isSet(long set) {
@@ -212,14 +220,14 @@ final class Model {
             return no(1);
         }
         status = 0;
-        return triesOf(set).count;
+        return layoutsOf(set).count;
     }
 
     int layout(long set) {
         if (!isSet(set)) {
             return no(1);
         }
-        int[] first = triesOf(set).first;
+        int[] first = layoutsOf(set).first;
         if (first == null) {
             return no(3);
         }
@@ -235,13 +243,12 @@ final class Model {
         if ((must & may) != 0) {
             return no(2);
         }
-        Tries tries = new Tries(must, may, aim);
-        tries.from(0, 0, 0);
-        if (tries.count == 0) {
+        Found found = new Tries(must, may, aim).all;
+        if (found.count == 0) {
             return no(3);
         }
-        layout(must | tries.bestPart);
-        return tries.bestPart;
+        layout(must | found.part);
+        return found.part;
     }
 
     int place(int card) {
@@ -405,7 +412,7 @@ final class Model {
     }
 
     private boolean mayOpen(long cards) {
-        int[] first = triesOf(cards).first;
+        int[] first = layoutsOf(cards).first;
         int sum = 0;
         for (int c = 0; first != null && c < 52; c++) {
             sum += first[c] != 0 ? cardWorth(c) : 0;
@@ -446,12 +453,11 @@ final class Model {
         }
         int laid = 0;
         while (!over) {
-            Tries tries = new Tries(opened[plays] ? table : 0, hands[plays], aim);
-            tries.from(0, 0, 0);
-            if (tries.bestPart == 0 || lay(tries.bestPart) == NONE) {
+            long part = new Tries(opened[plays] ? table : 0, hands[plays], aim).all.part;
+            if (part == 0 || lay(part) == NONE) {
                 break;
             }
-            laid += Long.bitCount(tries.bestPart);
+            laid += Long.bitCount(part);
         }
         if (!over) {
             end();

@@ -1,0 +1,105 @@
+import java.io.IOException;
+import java.lang.reflect.Constructor;
+import java.lang.reflect.Field;
+import java.lang.reflect.Method;
+import java.lang.reflect.Modifier;
+import java.nio.file.Files;
+import java.nio.file.Path;
+import java.util.Set;
+import java.util.TreeSet;
+import java.util.regex.Pattern;
+
+/** The public face is that of the document, and the file keeps to what of LANGUAGE.md can be read off it. */
+public final class FaceTest {
+    private static final Checks CHECKS = new Checks();
+    private static final String[] FACE = {
+        "int status()", "long ways(long)", "int layout(long)", "long best(long,long,int)", "int place(int)",
+        "int stands(int)", "int shows(int)", "int worth(long)", "boolean opening(int)", "boolean deal(int,int,int)",
+        "long hand(int)", "long table()", "int tell(int)", "int player(int,int)", "int lay(long)", "int end()",
+        "int robot(int)"};
+    private static final String[] FORBIDDEN = {
+        "throw", "throws", "try", "catch", "finally", "synchronized", "assert", "package", "protected",
+        "volatile", "transient", "native", "hashCode", "toString", "System", "Object", "Random", "Thread", "\\w+Exact"};
+
+    public static void main(String[] args) throws IOException {
+        members();
+        nested();
+        source();
+        CHECKS.finish();
+    }
+
+    private static void members() {
+        Class<?> face = RummyTable.class;
+        CHECKS.due("public and final", Modifier.PUBLIC | Modifier.FINAL, face.getModifiers());
+        Set<String> found = new TreeSet<>();
+        Set<String> names = new TreeSet<>();
+        for (Method method : face.getDeclaredMethods()) {
+            if (Modifier.isPublic(method.getModifiers())) {
+                found.add(written(method));
+                names.add(method.getName());
+            } else {
+                CHECKS.due(method + " is private", true, Modifier.isPrivate(method.getModifiers()));
+            }
+        }
+        CHECKS.due("face " + found, true, found.equals(new TreeSet<>(Set.of(FACE))));
+        for (Class<?> inside : face.getDeclaredClasses()) {
+            for (Method method : inside.getDeclaredMethods()) {
+                CHECKS.due(method + " bears no public name", false, names.contains(method.getName()));
+            }
+        }
+        for (Method method : face.getDeclaredMethods()) {
+            boolean hidden = !Modifier.isPublic(method.getModifiers());
+            CHECKS.due(method + " bears no public name", false, hidden && names.contains(method.getName()));
+        }
+        Constructor<?>[] made = face.getDeclaredConstructors();
+        CHECKS.due("constructors", 1, made.length);
+        CHECKS.due("its parameters", 0, made[0].getParameterCount());
+        for (Field field : face.getDeclaredFields()) {
+            boolean shown = Modifier.isPublic(field.getModifiers());
+            CHECKS.due(field + " is private or NONE", true,
+                    shown ? field.getName().equals("NONE") : Modifier.isPrivate(field.getModifiers()));
+        }
+    }
+
+    private static String written(Method method) {
+        StringBuilder text = new StringBuilder();
+        text.append(method.getReturnType()).append(' ').append(method.getName()).append('(');
+        for (Class<?> type : method.getParameterTypes()) {
+            text.append(text.charAt(text.length() - 1) == '(' ? "" : ",").append(type);
+        }
+        return text.append(')').toString();
+    }
+
+    private static void nested() {
+        Class<?>[] inside = RummyTable.class.getDeclaredClasses();
+        CHECKS.due("at most twelve classes", true, inside.length < 12);
+        for (Class<?> one : inside) {
+            CHECKS.due(one + " is static", true, Modifier.isStatic(one.getModifiers()));
+            int fields = 0;
+            for (Field field : one.getDeclaredFields()) {
+                boolean constant = Modifier.isStatic(field.getModifiers());
+                CHECKS.due(field + " is final if static", true, !constant || Modifier.isFinal(field.getModifiers()));
+                fields += constant ? 0 : 1;
+            }
+            CHECKS.due(one + " has at most 20 fields", true, fields <= 20);
+            for (Method method : one.getDeclaredMethods()) {
+                CHECKS.due(method + " takes at most 7", true, method.getParameterCount() <= 7);
+            }
+        }
+    }
+
+    private static void source() throws IOException {
+        String text = Files.readString(Path.of("src/main/java/RummyTable.java"));
+        String code = text.replaceAll("(?s)/\\*.*?\\*/", " ").replaceAll("//[^\n]*", " ");
+        for (String word : FORBIDDEN) {
+            CHECKS.due("'" + word + "' in the file", false, Pattern.compile("\\b" + word + "\\b").matcher(code).find());
+        }
+        CHECKS.due("no lambda, no method reference", false, code.contains("->") || code.contains("::"));
+        CHECKS.due("plain signs", true, text.chars().allMatch(c -> c == '\n' || c >= 32 && c < 127));
+        for (String line : code.split("\n")) {
+            if (line.startsWith("import ")) {
+                CHECKS.due(line, true, line.equals("import java.util.Arrays;"));
+            }
+        }
+    }
+}
