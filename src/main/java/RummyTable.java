@@ -325,7 +325,7 @@ public final class RummyTable {
 
     /**
      * A STEP gives the four CARDS of one NUMBER their PLACES: the COLOURS in a GROUP (bits 0 to 3),
-     * at the beginning of a RUN (bits 4 to 7) and further on in one (bits 8 to 11).
+     * at the beginning of a RUN (bits 4 to 7), further on in one (bits 8 to 11), and SHOWN (bits 12 to 15).
      * A STATE behind a step tells for each COLOUR how long its open RUN is, 0 to 3 (3: or longer):
      * the low bits of these lengths (bits 0 to 3), then their high bits (bits 4 to 7).
      */
@@ -350,7 +350,7 @@ public final class RummyTable {
             for (int colour = 0; colour < COLOURS; colour++) {
                 int place = (code >> (2 * (COLOURS - 1 - colour))) & 3;
                 if (place != 0) {
-                    step |= 1 << (COLOURS * (place - 1) + colour);
+                    step |= 1 << (COLOURS * (place - 1) + colour) | 1 << (3 * COLOURS + colour);
                 }
             }
             return step;
@@ -369,7 +369,7 @@ public final class RummyTable {
         }
 
         static int shown(int step) {
-            return grouped(step) | begun(step) | continued(step);
+            return (step >> (3 * COLOURS)) & ALL_COLOURS;
         }
 
         static int placeOf(int step, int colour) {
@@ -382,15 +382,17 @@ public final class RummyTable {
             return ((continued(step) >> colour) & 1) != 0 ? 3 : 0;
         }
 
-        /** The state behind the step, or NONE: a RUN of 1 or 2 must go on, and only an open RUN can. */
-        static int stateAfter(int state, int step) {
+        /** Whether just these COLOURS can go on: a RUN of 1 or 2 must, and only an open RUN can. */
+        static boolean canContinue(int state, int colours) {
             int low = state & ALL_COLOURS;
             int high = (state >> COLOURS) & ALL_COLOURS;
+            return ((low ^ high) & ~colours) == 0 && (colours & ~(low | high)) == 0;
+        }
+
+        /** The state behind a step whose COLOURS can go on. */
+        static int stateAfter(int state, int step) {
             int on = continued(step);
-            if (((low ^ high) & ~on) != 0 || (on & ~(low | high)) != 0) {
-                return NONE;
-            }
-            return begun(step) | (on & high) | (on << COLOURS);
+            return begun(step) | (on & (state >> COLOURS)) | (on << COLOURS);
         }
 
         /** Whether no RUN is still too short, so that all may end here. */
@@ -400,20 +402,62 @@ public final class RummyTable {
     }
 
     /**
-     * One walk over the NUMBERS. A cell for each state and count of JOKERS used so far holds 0, if it
-     * can't be reached, else in how many ways, or the greatest KEY. A KEY has the value of the CARDS
-     * taken above bit 52, then a bit for each CARD taken, CARD 0 the highest, then 1: so of two
-     * parts the better one has the greater KEY.
+     * What the walk knows ahead of one NUMBER: a cell for each state and count of JOKERS used so far, 0
+     * if it can't be reached. Few states are, as a rule, so they are listed.
+     */
+    private static final class Row {
+        private final long[] cells = new long[STATES * JOKER_COUNTS];
+        private final boolean[] listed = new boolean[STATES];
+        private final int[] states = new int[STATES];
+        private int count;
+
+        void clear() {
+            for (int i = 0; i < count; i++) {
+                int state = states[i];
+                listed[state] = false;
+                for (int used = 0; used < JOKER_COUNTS; used++) {
+                    cells[state * JOKER_COUNTS + used] = 0;
+                }
+            }
+            count = 0;
+        }
+
+        private static boolean isCell(int state, int used) {
+            return state >= 0 && state < STATES && used >= 0 && used < JOKER_COUNTS;
+        }
+
+        long at(int state, int used) {
+            return isCell(state, used) ? cells[state * JOKER_COUNTS + used] : 0L;
+        }
+
+        void put(int state, int used, long value) {
+            if (!isCell(state, used)) {
+                return;
+            }
+            if (!listed[state] && count < STATES) {
+                listed[state] = true;
+                states[count] = state;
+                count++;
+            }
+            cells[state * JOKER_COUNTS + used] = value;
+        }
+    }
+
+    /**
+     * One walk over the NUMBERS. A cell that is reached holds in how many ways, or the greatest KEY. A KEY
+     * has the value of the CARDS taken above bit 52, then a bit for each CARD taken, CARD 0 the highest,
+     * then 1: so of two parts the better one has the greater KEY.
      */
     private static final class Walk {
         private static final int VALUE_SHIFT = NUMBERED + 1;
 
-        private final int[] steps;
+        private final int[] steps = new int[STEPS];
         private final int[] fitting = new int[STEPS];
+        private final int[] firstFit = new int[ALL_COLOURS + 2];
         private final long[] gains = new long[STEPS * JOKER_COUNTS];
         private int fits;
-        private long[] here = new long[STATES * JOKER_COUNTS];
-        private long[] there = new long[STATES * JOKER_COUNTS];
+        private Row here = new Row();
+        private Row there = new Row();
         private long must;
         private long may;
         private int jokers;
@@ -421,8 +465,17 @@ public final class RummyTable {
         private boolean byWorth;
         private int unit;
 
-        Walk(int[] steps) {
-            this.steps = steps;
+        /** Takes the steps in the order of the COLOURS that go on, so that those a state allows lie together. */
+        Walk(int[] stepsInOrder) {
+            int count = 0;
+            for (int on = 0; on <= ALL_COLOURS; on++) {
+                for (int i = 0; i < stepsInOrder.length && count < STEPS; i++) {
+                    if (Step.continued(stepsInOrder[i]) == on) {
+                        steps[count] = stepsInOrder[i];
+                        count++;
+                    }
+                }
+            }
         }
 
         long countLayouts(long set) {
@@ -432,9 +485,9 @@ public final class RummyTable {
             int all = Card.jokersIn(set);
             goThrough(all);
             long sum = 0;
-            for (int state = 0; state < STATES; state++) {
-                if (Step.mayEnd(state)) {
-                    sum += here[cell(all, state)];
+            for (int i = 0; i < here.count; i++) {
+                if (Step.mayEnd(here.states[i])) {
+                    sum += here.at(here.states[i], all);
                 }
             }
             return sum;
@@ -466,9 +519,9 @@ public final class RummyTable {
 
         private long greatestAtEnd(int used) {
             long key = 0;
-            for (int state = 0; state < STATES; state++) {
-                if (Step.mayEnd(state)) {
-                    key = Math.max(key, here[cell(used, state)]);
+            for (int i = 0; i < here.count; i++) {
+                if (Step.mayEnd(here.states[i])) {
+                    key = Math.max(key, here.at(here.states[i], used));
                 }
             }
             return key;
@@ -494,54 +547,40 @@ public final class RummyTable {
             return taken;
         }
 
-        private static int cell(int used, int state) {
-            return used * STATES + state;
-        }
-
         private void goThrough(int mostJokers) {
             jokers = Math.min(mostJokers, MOST_JOKERS);
-            Arrays.fill(here, 0L);
-            here[cell(0, 0)] = 1;
+            here.clear();
+            here.put(0, 0, 1);
             for (int number = 0; number < NUMBERS; number++) {
                 gatherFitting(number);
-                Arrays.fill(there, 0L);
-                for (int state = 0; state < STATES; state++) {
-                    if (isReached(state)) {
-                        goOnFrom(state);
-                    }
+                there.clear();
+                for (int i = 0; i < here.count; i++) {
+                    goOnFrom(here.states[i]);
                 }
-                long[] old = here;
+                Row old = here;
                 here = there;
                 there = old;
             }
         }
 
-        private boolean isReached(int state) {
-            for (int used = 0; used <= jokers; used++) {
-                if (here[cell(used, state)] != 0) {
-                    return true;
-                }
-            }
-            return false;
-        }
-
         private void goOnFrom(int state) {
-            for (int i = 0; i < fits && i < STEPS; i++) {
-                int next = Step.stateAfter(state, fitting[i]);
-                if (next >= 0) {
-                    carry(state, next, i);
+            for (int on = 0; on <= ALL_COLOURS; on++) {
+                if (Step.canContinue(state, on)) {
+                    for (int i = firstFit[on]; i < firstFit[on + 1]; i++) {
+                        carry(state, Step.stateAfter(state, fitting[i]), i);
+                    }
                 }
             }
         }
 
         private void carry(int state, int next, int fit) {
             for (int used = 0; used <= jokers; used++) {
-                long value = here[cell(used, state)];
+                long value = here.at(state, used);
                 for (int more = 0; value != 0 && used + more <= jokers; more++) {
                     long gain = gains[fit * JOKER_COUNTS + more];
                     if (gain >= 0) {
-                        int to = cell(used + more, next);
-                        there[to] = counting ? there[to] + value : Math.max(there[to], value + gain);
+                        long old = there.at(next, used + more);
+                        there.put(next, used + more, counting ? old + value : Math.max(old, value + gain));
                     }
                 }
             }
@@ -553,7 +592,7 @@ public final class RummyTable {
             int free = Card.coloursOf(may, number);
             unit = byWorth ? Card.worthOfNumber(number) : 1;
             fits = 0;
-            for (int i = 0; i < steps.length && fits < STEPS; i++) {
+            for (int i = 0; i < STEPS; i++) {
                 int shown = Step.shown(steps[i]);
                 int missing = Integer.bitCount(shown & ~(needed | free));
                 if ((needed & ~shown) == 0 && missing <= jokers) {
@@ -561,6 +600,7 @@ public final class RummyTable {
                     setGains(number, missing, shown & free);
                     fits++;
                 }
+                firstFit[Step.continued(steps[i]) + 1] = fits;
             }
         }
 
@@ -637,11 +677,12 @@ public final class RummyTable {
             int needed = Card.coloursOf(set, number);
             for (int i = 0; i < steps.length; i++) {
                 int shown = Step.shown(steps[i]);
-                int next = (needed & ~shown) == 0 ? Step.stateAfter(state, steps[i]) : NONE;
-                int left = jokers - Integer.bitCount(shown & ~needed);
-                if (next >= 0 && left >= 0 && reachesEnd(number + 1, next, left, target)) {
-                    target.steps[number] = steps[i];
-                    return true;
+                if ((needed & ~shown) == 0 && Step.canContinue(state, Step.continued(steps[i]))) {
+                    int left = jokers - Integer.bitCount(shown & ~needed);
+                    if (left >= 0 && reachesEnd(number + 1, Step.stateAfter(state, steps[i]), left, target)) {
+                        target.steps[number] = steps[i];
+                        return true;
+                    }
                 }
             }
             hopeless[mark / WORD_BITS] |= 1L << (mark % WORD_BITS);

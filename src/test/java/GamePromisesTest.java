@@ -85,9 +85,18 @@ public final class GamePromisesTest {
         }
         CHECKS.due("11: stock is empty", 54, x.end());
         // A new GAME is new in all.
-        dealt(2, 3, 987, 0);
+        dealt(2, 3, 987, 30);
+        x.end();
+        x.end();
+        x.opening(0);
+        x.lay(set("10a 10b 10c"));
+        x.lay(x.hand(0));
+        CHECKS.due("11: turns", 2, x.tell(4));
+        x.deal(2, 3, 987);
         x.lay(x.hand(0));
         CHECKS.due("11: over", 1, x.tell(2));
+        CHECKS.due("11: won", 0, x.tell(3));
+        CHECKS.due("11: turns", 0, x.tell(4));
         x.deal(4, 13, 1);
         int[] want = {0, 2, 0, -1, 0, 0, 4};
         for (int what = 0; what < 7; what++) {

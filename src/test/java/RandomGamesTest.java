@@ -33,16 +33,14 @@ public final class RandomGamesTest {
         }
         int worth = random.nextInt(4) == 0 ? 30 : random.nextInt(40);
         CHECKS.due("opening(" + worth + ")", model.opening(worth), real.opening(worth));
-        int players = 2 + random.nextInt(3);
-        int many = 1 + random.nextInt(13);
-        int seed = 1 + random.nextInt(2147483646);
-        String deal = "deal(" + players + ", " + many + ", " + seed + ")";
-        CHECKS.due(deal, model.deal(players, many, seed), real.deal(players, many, seed));
-        askState(deal);
+        String deal = newDeal(random);
         int bound = round % 3 == 0 ? 400 : 60;
         for (int i = 0; i < bound && model.tell(2) == 0; i++) {
             act(random);
             askState(deal + " act " + i);
+            if (random.nextInt(80) == 0) {
+                deal = newDeal(random);
+            }
         }
         if (model.tell(2) == 1) {
             ended++;
@@ -52,6 +50,16 @@ public final class RandomGamesTest {
                 askState(deal + " over");
             }
         }
+    }
+
+    private static String newDeal(Random random) {
+        int players = 2 + random.nextInt(3);
+        int many = 1 + random.nextInt(13);
+        int seed = 1 + random.nextInt(2147483646);
+        String deal = "deal(" + players + ", " + many + ", " + seed + ")";
+        CHECKS.due(deal, model.deal(players, many, seed), real.deal(players, many, seed));
+        askState(deal);
+        return deal;
     }
 
     private static void act(Random random) {

@@ -15,7 +15,34 @@ public final class RandomSetsTest {
                 setsRound(random, round);
             }
         }
+        for (int round = 0; round < 40; round++) {
+            real = new RummyTable();
+            model = new Model();
+            denseRound(random, round % 2);
+        }
         CHECKS.finish();
+    }
+
+    /** Many CARDS at once, up to all: the model is slow there, so there are few of these. */
+    private static void denseRound(Random random, int aim) {
+        long must = 0;
+        long may = 0;
+        double share = random.nextDouble();
+        double part = random.nextDouble();
+        for (int card = 0; card < 54; card++) {
+            if (random.nextDouble() < share) {
+                boolean needed = random.nextDouble() < part;
+                must |= needed ? 1L << card : 0;
+                may |= needed ? 0 : 1L << card;
+            }
+        }
+        String call = "best(" + must + ", " + may + ", " + aim + ")";
+        long best = model.best(must, may, aim);
+        CHECKS.due(call, best, real.best(must, may, aim));
+        askStatus();
+        askLayout(call);
+        long all = must | Math.max(0, best);
+        CHECKS.due("ways(" + all + ")", model.ways(all), real.ways(all));
     }
 
     private static void setsRound(Random random, int round) {

@@ -166,7 +166,9 @@ public final class SetPromisesTest {
         CHECKS.due("5: laid anew", set("3d"), x.best(set("3a 3b 3c"), set("3d"), 0));
         CHECKS.due("5: taken apart", set("4a 5a"), x.best(set("3a 3b 3c 3d"), set("4a 5a"), 0));
         CHECKS.due("5: not taken apart", 0, x.best(set("3a 3b 3c"), set("4a 5a"), 0));
-        CHECKS.due("5: one joker of two, the first", set("3a 4a 5a J"), x.best(0, set("3a 4a 5a J"), 0));
+        CHECKS.due("5: run and joker", set("3a 4a 5a J"), x.best(0, set("3a 4a 5a J"), 0));
+        // Not both jokers beside three fives; of four cards 5c is ahead of the second joker.
+        CHECKS.due("5: one joker of two, the first", set("5a 5b 5c J"), x.best(0, set("5a 5b 5c J K"), 0));
         CHECKS.due("5: last joker where the first is laid", set("K"), x.best(set("11a 12a J"), set("K"), 0));
         CHECKS.due("5: full group leaves a joker", set("5a 5b 5c 5d"), x.best(0, set("5a 5b 5c 5d 9c"), 0));
         CHECKS.due("5: joker that must be laid takes a free card's place",
@@ -182,6 +184,7 @@ public final class SetPromisesTest {
         CHECKS.due("5: 10 at most", set("11a 11b 11c"), x.best(0, set("11a 11b 11c 12a 13a"), 1));
         CHECKS.due("5: joker is worth 20", set("2a 3a J"), x.best(0, set("2a 3a J"), 1));
         CHECKS.due("5: jokers", set("9b J K"), x.best(0, set("9b J K"), 1));
+        CHECKS.due("5: a joker before a king", set("13a 13b J K"), x.best(0, set("13a 13b 13c J K"), 1));
     }
 
     private static void bestRefused() {
