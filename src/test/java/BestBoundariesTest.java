@@ -166,6 +166,9 @@ public final class BestBoundariesTest {
         best("5a 5b 5c", "J K", 1, "J");
         best("5a 5b J", "K", 1, "K");
         best("5a 5b K", "J", 1, "J");
+        // The one that may be laid finds no room beside the one that must.
+        best("5a 5b 5c J", "K", 1, "");
+        best("5a 5b 5c K", "J", 0, "");
         best("", "5a 5b J K", 0, "5a 5b J K");
         // As many CARDS with a JOKER as without: CARDS have lesser numbers than JOKERS.
         best("", "5a 5b 5c 5d J", 0, "5a 5b 5c 5d");
