@@ -24,6 +24,23 @@ final class Boundary {
         return answer ? 1 : RummyTable.NONE;
     }
 
+    /** A setup: a GAME with an OPENING, and so many TURNS that ended without a LAYING. */
+    static Consumer<RummyTable> ended(int players, int many, int seed, int opening, int turns) {
+        return x -> {
+            x.opening(opening);
+            x.deal(players, many, seed);
+            for (int i = 0; i < turns; i++) {
+                x.end();
+            }
+        };
+    }
+
+    /** A setup: PLAYER 0 has laid 10a 10b 10c, all of the HAND. */
+    static void won(RummyTable x) {
+        x.deal(2, 3, 987);
+        x.lay(x.hand(0));
+    }
+
     RummyTable made() {
         RummyTable x = new RummyTable();
         setup.accept(x);

@@ -17,6 +17,14 @@ final class Checks {
         due(call, want ? 1 : 0, got ? 1 : 0);
     }
 
+    /** What tell answers to 0 and on. */
+    void told(String when, RummyTable x, int... want) {
+        for (int what = 0; what < want.length; what++) {
+            due(when + ": tell(" + what + ")", want[what], x.tell(what));
+            due(when + ": status of tell(" + what + ")", 0, x.status());
+        }
+    }
+
     /** Prints the sum and leaves with exit code 1 if an answer was wrong. */
     void finish() {
         System.out.println(asked + " answers asked, " + wrong + " not as due");

@@ -58,29 +58,17 @@ public final class GameBoundariesTest {
     }
 
     private static Consumer<RummyTable> ended(int players, int many, int seed, int turns) {
-        return x -> {
-            x.deal(players, many, seed);
-            for (int i = 0; i < turns; i++) {
-                x.end();
-            }
-        };
+        return Boundary.ended(players, many, seed, 30, turns);
     }
 
     private static Boundary at(String where, Consumer<RummyTable> setup) {
         return new Boundary(CHECKS, where, setup);
     }
 
-    private static void facts(String when, RummyTable x, int... want) {
-        for (int what = 0; what < want.length; what++) {
-            CHECKS.due(when + ": tell(" + what + ")", want[what], x.tell(what));
-            CHECKS.due(when + ": status of tell(" + what + ")", 0, x.status());
-        }
-    }
-
     private static void dealTaken(int players, int many, int seed) {
         String call = "deal(" + players + ", " + many + ", " + seed + ")";
         RummyTable x = at("11, no GAME", y -> { }).taken(call, 1, y -> Boundary.orNone(y.deal(players, many, seed)));
-        facts(call, x, 0, 54 - players * many, 0, -1, 0, 0, players);
+        CHECKS.told(call, x, 0, 54 - players * many, 0, -1, 0, 0, players);
         at("11, in a GAME", ended(2, 3, 7, 3)).taken(call, 1, y -> Boundary.orNone(y.deal(players, many, seed)));
     }
 
@@ -159,9 +147,9 @@ public final class GameBoundariesTest {
         x.end();
         x.end();
         x.lay(set("13a 13b 13c"));
-        facts("a GAME that was won", x, 3, 42 - 3, 1, 3, 3, 1, 4);
+        CHECKS.told("a GAME that was won", x, 3, 42 - 3, 1, 3, 3, 1, 4);
         x.deal(3, 3, 987);
-        facts("a new GAME", x, 0, 45, 0, -1, 0, 0, 3);
+        CHECKS.told("a new GAME", x, 0, 45, 0, -1, 0, 0, 3);
         CHECKS.due("11: TABLE", 0, x.table());
         for (int p = 0; p < 3; p++) {
             CHECKS.due("11: has not OPENED", 0, x.player(p, 0));
@@ -200,20 +188,14 @@ public final class GameBoundariesTest {
                 game.refused("hand(" + player + ")", 1, x -> x.hand(player));
             }
         }
-        at("12, OVER", x -> {
-            x.deal(2, 3, 987);
-            x.lay(x.hand(0));
-        }).taken("hand(0)", 0, x -> x.hand(0));
+        at("12, OVER", Boundary::won).taken("hand(0)", 0, x -> x.hand(0));
     }
 
     /** "All that lies on the TABLE (4)." */
     private static void tableOfAGame() {
         at("13", x -> x.layout(7)).refused("table without a GAME", 4, x -> x.table());
         at("13", dealt(2, 3, 987)).taken("table of a new GAME", 0, x -> x.table());
-        at("13", x -> {
-            x.deal(2, 3, 987);
-            x.lay(x.hand(0));
-        }).taken("table of a GAME that is OVER", set("10a 10b 10c"), x -> x.table());
+        at("13", Boundary::won).taken("table of a GAME that is OVER", set("10a 10b 10c"), x -> x.table());
         at("13", x -> {
             x.deal(2, 3, 987);
             x.lay(x.hand(0));
@@ -229,7 +211,7 @@ public final class GameBoundariesTest {
         none.refused("tell(6)", 4, x -> x.tell(6));
         none.refused("tell(7)", 1, x -> x.tell(7));
         Boundary game = at("14", ended(3, 4, 7, 1));
-        facts("14", game.made(), 1, 41, 0, -1, 1, 0, 3);
+        CHECKS.told("14", game.made(), 1, 41, 0, -1, 1, 0, 3);
         game.taken("tell(0)", 1, x -> x.tell(0));
         game.taken("tell(3): NONE has WON, STATUS 0", -1, x -> x.tell(3));
         game.taken("tell(6)", 3, x -> x.tell(6));
@@ -271,10 +253,7 @@ public final class GameBoundariesTest {
             }
         }
         // A HAND without CARDS, and one with a JOKER of 20.
-        Boundary won = at("15, won", x -> {
-            x.deal(2, 3, 987);
-            x.lay(x.hand(0));
-        });
+        Boundary won = at("15, won", Boundary::won);
         won.taken("player(0, 0)", 1, x -> x.player(0, 0));
         won.taken("player(0, 1)", 0, x -> x.player(0, 1));
         won.taken("player(0, 2)", 0, x -> x.player(0, 2));
@@ -286,24 +265,24 @@ public final class GameBoundariesTest {
     private static void stockRunsOut() {
         RummyTable x = new RummyTable();
         x.deal(4, 13, 7);
-        facts("17: a STOCK of 2", x, 0, 2);
+        CHECKS.told("17: a STOCK of 2", x, 0, 2);
         CHECKS.due("17: the last but one", 20, x.end());
         CHECKS.due("17: it came to PLAYER 0", 1, x.hand(0) >>> 20 & 1);
-        facts("17: a STOCK of 1", x, 1, 1);
+        CHECKS.told("17: a STOCK of 1", x, 1, 1);
         CHECKS.due("17: the last", 19, x.end());
         CHECKS.due("17: it came to PLAYER 1", 1, x.hand(1) >>> 19 & 1);
-        facts("17: no STOCK", x, 2, 0, 0);
+        CHECKS.told("17: no STOCK", x, 2, 0, 0);
         long before = x.hand(2);
         CHECKS.due("17: none", 54, x.end());
         CHECKS.due("17: status of none", 0, x.status());
         CHECKS.due("17: none came", before, x.hand(2));
-        facts("17: no STOCK", x, 3, 0, 0, -1, 3);
+        CHECKS.told("17: no STOCK", x, 3, 0, 0, -1, 3);
         // A STOCK of 52, for two with a CARD each.
         x.deal(2, 1, 7);
         for (int i = 2; i < 54; i++) {
             CHECKS.due("17: CARD " + i, OF_SEED_7[i], x.end());
         }
-        facts("17: all are in the HANDS", x, 0, 0, 0, -1, 52);
+        CHECKS.told("17: all are in the HANDS", x, 0, 0, 0, -1, 52);
         CHECKS.due("17: CARDS", 27, x.player(0, 1));
         CHECKS.due("17: CARDS", 27, x.player(1, 1));
         CHECKS.due("17: none", 54, x.end());
@@ -328,7 +307,7 @@ public final class GameBoundariesTest {
         RummyTable x = at("17", dealt(2, 3, 987)).taken("end", 11, y -> y.end());
         CHECKS.due("17: the HAND has it", set("10a 10b 10c") | 1L << 11, x.hand(0));
         CHECKS.due("17: the other has not", 3, x.player(1, 1));
-        facts("17", x, 1, 47, 0, -1, 1, 0, 2);
+        CHECKS.told("17", x, 1, 47, 0, -1, 1, 0, 2);
     }
 
     /** A TURN with a LAYING ENDS without a CARD, be there a STOCK or not. */
@@ -339,10 +318,10 @@ public final class GameBoundariesTest {
         });
         RummyTable x = laid.taken("end", 54, y -> y.end());
         CHECKS.due("17: the HAND", set("7a"), x.hand(0));
-        facts("17", x, 1, 46, 0, -1, 1, 0, 2);
+        CHECKS.told("17", x, 1, 46, 0, -1, 1, 0, 2);
         // The CARD that did not come then comes to the next one.
         CHECKS.due("17: the next CARD", 31, x.end());
-        facts("17", x, 0, 45, 0, -1, 2, 0, 2);
+        CHECKS.told("17", x, 0, 45, 0, -1, 2, 0, 2);
     }
 
     /** A LAYING that was refused is none: the TURN ENDS with a CARD. */
@@ -357,14 +336,14 @@ public final class GameBoundariesTest {
     /** "It is OVER, as soon as a HAND is empty (its PLAYER has WON)" */
     private static void overByAnEmptyHand() {
         RummyTable x = at("16", dealt(2, 3, 987)).taken("the first PLAYER", 3, y -> y.lay(set("10a 10b 10c")));
-        facts("16: won by 0", x, 0, 48, 1, 0, 0, 1, 2);
+        CHECKS.told("16: won by 0", x, 0, 48, 1, 0, 0, 1, 2);
         x = at("16", ended(4, 3, 91, 3)).taken("the last PLAYER", 3, y -> y.lay(set("13a 13b 13c")));
-        facts("16: won by 3", x, 3, 39, 1, 3, 3, 1, 4);
+        CHECKS.told("16: won by 3", x, 3, 39, 1, 3, 3, 1, 4);
         x = at("16", ended(3, 3, 346, 2)).taken("the last PLAYER", 3, y -> y.lay(set("11b 11c 11d")));
-        facts("16: won by 2", x, 2, 43, 1, 2, 2, 1, 3);
+        CHECKS.told("16: won by 2", x, 2, 43, 1, 2, 2, 1, 3);
         // A CARD left is not none.
         x = at("16", dealt(2, 4, 4687)).taken("a CARD is left", 3, y -> y.lay(set("10d 12d J")));
-        facts("16: not OVER", x, 0, 46, 0, -1, 0, 1, 2);
+        CHECKS.told("16: not OVER", x, 0, 46, 0, -1, 0, 1, 2);
     }
 
     /** "as many TURNS in a row as there are PLAYERS have ended without a LAYING and without a CARD" */
@@ -372,10 +351,11 @@ public final class GameBoundariesTest {
         for (int players = 2; players <= 4; players++) {
             int stock = 54 - 13 * players;
             RummyTable x = at("17", ended(players, 13, 7, stock + players - 1)).made();
-            facts("17: one less than " + players, x, (stock + players - 1) % players, 0, 0, -1, stock + players - 1, 0);
+            int turns = stock + players - 1;
+            CHECKS.told("17: one less than " + players, x, turns % players, 0, 0, -1, turns, 0);
             CHECKS.due("17: the last one", 54, x.end());
             CHECKS.due("17: its status", 0, x.status());
-            facts("17: as many as " + players, x, stock % players, 0, 1, -1, stock + players, 0, players);
+            CHECKS.told("17: as many as " + players, x, stock % players, 0, 1, -1, stock + players, 0, players);
         }
     }
 
@@ -387,17 +367,17 @@ public final class GameBoundariesTest {
             x.end();
         });
         RummyTable x = row.made();
-        facts("17: broken", x, 2, 0, 0, -1, 6);
+        CHECKS.told("17: broken", x, 2, 0, 0, -1, 6);
         for (int i = 0; i < 3; i++) {
             x.end();
             CHECKS.due("17: " + (i + 1) + " of 4", 0, x.tell(2));
         }
         x.end();
-        facts("17: 4 of 4", x, 2, 0, 1, -1, 10);
+        CHECKS.told("17: 4 of 4", x, 2, 0, 1, -1, 10);
         x = at("17", ended(4, 13, 14, 5)).made();
         CHECKS.due("17: refused", -1, x.lay(set("10a 10c")));
         x.end();
-        facts("17: not broken", x, 2, 0, 1, -1, 6);
+        CHECKS.told("17: not broken", x, 2, 0, 1, -1, 6);
     }
 
     /** TURNS with a CARD from the STOCK are not of the row: it begins behind the last CARD. */
@@ -422,10 +402,7 @@ public final class GameBoundariesTest {
     }
 
     private static void endWhenOver() {
-        at("17, won", x -> {
-            x.deal(2, 3, 987);
-            x.lay(x.hand(0));
-        }).refused("end", 5, x -> x.end());
+        at("17, won", Boundary::won).refused("end", 5, x -> x.end());
         at("17, ended", ended(4, 13, 7, 6)).refused("end", 5, x -> x.end());
         at("17, the last TURN", ended(4, 13, 7, 5)).taken("end", 54, x -> x.end());
     }

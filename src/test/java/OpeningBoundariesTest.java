@@ -37,29 +37,11 @@ public final class OpeningBoundariesTest {
     }
 
     private static Consumer<RummyTable> dealt(int players, int many, int seed, int opening) {
-        return x -> {
-            x.opening(opening);
-            x.deal(players, many, seed);
-        };
-    }
-
-    private static Consumer<RummyTable> ended(int players, int many, int seed, int opening, int turns) {
-        return x -> {
-            dealt(players, many, seed, opening).accept(x);
-            for (int i = 0; i < turns; i++) {
-                x.end();
-            }
-        };
+        return Boundary.ended(players, many, seed, opening, 0);
     }
 
     private static Boundary at(String where, Consumer<RummyTable> setup) {
         return new Boundary(CHECKS, where, setup);
-    }
-
-    private static void facts(String when, RummyTable x, int... want) {
-        for (int what = 0; what < want.length; what++) {
-            CHECKS.due(when + ": tell(" + what + ")", want[what], x.tell(what));
-        }
     }
 
     private static void lays(String when, Consumer<RummyTable> setup, String cards, int lying) {
@@ -77,10 +59,7 @@ public final class OpeningBoundariesTest {
     private static void zeroToTwoHundred() {
         Boundary none = at("10, no GAME", x -> x.layout(7));
         Boundary game = at("10, in a GAME", dealt(2, 3, 377, 21));
-        Boundary over = at("10, OVER", x -> {
-            x.deal(2, 3, 987);
-            x.lay(x.hand(0));
-        });
+        Boundary over = at("10, OVER", Boundary::won);
         for (Boundary one : new Boundary[] {none, game, over}) {
             one.refused("opening(-1)", 1, x -> Boundary.orNone(x.opening(-1)));
             one.taken("opening(0)", 1, x -> Boundary.orNone(x.opening(0)));
@@ -126,9 +105,9 @@ public final class OpeningBoundariesTest {
     private static void twoHundred() {
         String worth200 = "6d 7b 7d 8b 8c 8d 9a 9b 9d 10a 10c 10d 11a 11b 11d 12a 12b 12d 13a 13d J K";
         String worth199 = "6d 7b 7d 8a 8b 8c 8d 9a 9b 10a 10c 10d 11a 11b 11d 12a 12b 12d 13a 13d J K";
-        lays("200 of 200", ended(2, 13, 3582, 200, 28), worth200, 22);
-        refuses("199 of 200", ended(2, 13, 3582, 200, 28), worth199, 7);
-        lays("199 of 199", ended(2, 13, 3582, 199, 28), worth199, 22);
+        lays("200 of 200", Boundary.ended(2, 13, 3582, 200, 28), worth200, 22);
+        refuses("199 of 200", Boundary.ended(2, 13, 3582, 200, 28), worth199, 7);
+        lays("199 of 199", Boundary.ended(2, 13, 3582, 199, 28), worth199, 22);
     }
 
     /** With 0 all is worth enough, but it must be LAYABLE still. */
@@ -227,7 +206,7 @@ public final class OpeningBoundariesTest {
             game.accept(x);
             x.lay(set("10d 12d J"));
         }, "10d", 6);
-        refuses("CARDS of the one who does not play", ended(2, 3, 987, 30, 1), "10a 10b 10c", 6);
+        refuses("CARDS of the one who does not play", Boundary.ended(2, 3, 987, 30, 1), "10a 10b 10c", 6);
     }
 
     /** "one who has not OPENED yet lays only what is LAYABLE by itself, too" */
@@ -291,19 +270,16 @@ public final class OpeningBoundariesTest {
             CHECKS.due("16: the TURN goes on", 0, x.tell(4));
         }
         CHECKS.due("16: a refused one", -1, x.lay(set("1c")));
-        facts("16", x, 0, 28, 0, -1, 0, 3, 2);
+        CHECKS.told("16", x, 0, 28, 0, -1, 0, 3, 2);
         CHECKS.due("17: no CARD", 54, x.end());
-        facts("17", x, 1, 28, 0, -1, 1, 0, 2);
+        CHECKS.told("17", x, 1, 28, 0, -1, 1, 0, 2);
     }
 
     /** "ROBOT for an AIM": 0 or 1; "(1; 4; 5)" */
     private static void robotAims() {
         Boundary none = at("18, no GAME", x -> { });
         Boundary game = at("18, in a GAME", dealt(2, 7, 20, 30));
-        Boundary over = at("18, OVER", x -> {
-            x.deal(2, 3, 987);
-            x.lay(x.hand(0));
-        });
+        Boundary over = at("18, OVER", Boundary::won);
         for (int aim : new int[] {Integer.MIN_VALUE, -1, 2, 3, Integer.MAX_VALUE}) {
             none.refused("robot(" + aim + ")", 1, x -> x.robot(aim));
             game.refused("robot(" + aim + ")", 1, x -> x.robot(aim));
@@ -320,13 +296,13 @@ public final class OpeningBoundariesTest {
     /** "of one who has not OPENED ... if the rules of OPENING let it be laid" */
     private static void robotAtOpening() {
         RummyTable x = at("18", dealt(2, 4, 4687, 30)).taken("30 of 30", 3, y -> y.robot(0));
-        facts("18: laid", x, 1, 46, 0, -1, 1, 0, 2);
+        CHECKS.told("18: laid", x, 1, 46, 0, -1, 1, 0, 2);
         CHECKS.due("18: TABLE", set("10d 12d J"), x.table());
         CHECKS.due("18: HAND", set("7a"), x.hand(0));
         CHECKS.due("18: has OPENED", 1, x.player(0, 0));
         CHECKS.due("18: the LAYOUT is kept", 3, x.shows(2));
         x = at("18", dealt(2, 4, 4687, 31)).taken("30 of 31", 0, y -> y.robot(0));
-        facts("18: not laid", x, 1, 45, 0, -1, 1, 0, 2);
+        CHECKS.told("18: not laid", x, 1, 45, 0, -1, 1, 0, 2);
         CHECKS.due("18: TABLE", 0, x.table());
         CHECKS.due("18: HAND", set("7a 8d 10d 12d J"), x.hand(0));
         CHECKS.due("18: has not OPENED", 0, x.player(0, 0));
@@ -349,7 +325,7 @@ public final class OpeningBoundariesTest {
     /** "a BEST part ... that is not empty": else the TURN ENDS, as one without a LAYING does. */
     private static void robotWithNothingToLay() {
         RummyTable x = at("18", dealt(2, 1, 7, 0)).taken("one CARD", 0, y -> y.robot(0));
-        facts("18: a CARD came", x, 1, 51, 0, -1, 1, 0, 2);
+        CHECKS.told("18: a CARD came", x, 1, 51, 0, -1, 1, 0, 2);
         CHECKS.due("18: HAND", set("6c 2a"), x.hand(0));
         x = at("18", y -> {
             dealt(2, 1, 7, 0).accept(y);
@@ -373,8 +349,8 @@ public final class OpeningBoundariesTest {
         CHECKS.due("18: has not OPENED", 0, x.player(1, 0));
         CHECKS.due("18: a CARD came", 14, x.player(1, 1));
         // No STOCK: no CARD, and yet a TURN that ended.
-        x = at("18", ended(4, 13, 7, 200, 2)).taken("no STOCK", 0, y -> y.robot(0));
-        facts("18: no CARD came", x, 3, 0, 0, -1, 3, 0, 4);
+        x = at("18", Boundary.ended(4, 13, 7, 200, 2)).taken("no STOCK", 0, y -> y.robot(0));
+        CHECKS.told("18: no CARD came", x, 3, 0, 0, -1, 3, 0, 4);
         CHECKS.due("18: HAND", 13, x.player(2, 1));
     }
 
@@ -387,21 +363,21 @@ public final class OpeningBoundariesTest {
             x.opening(200);
         };
         RummyTable x = at("18", opened).taken("one CARD beside the TABLE", 1, y -> y.robot(0));
-        facts("18: WON", x, 1, 46, 1, 1, 1, 2, 2);
+        CHECKS.told("18: WON", x, 1, 46, 1, 1, 1, 2, 2);
         // Not OPENED: 3a 3c 3d at first, then 11d beside the TABLE, in one TURN.
         x = at("18", y -> {
             dealt(2, 4, 4687, 9).accept(y);
             y.lay(set("10d 12d J"));
             y.end();
         }).taken("two LAYINGS", 4, y -> y.robot(1));
-        facts("18: WON", x, 1, 46, 1, 1, 1, 2, 2);
+        CHECKS.told("18: WON", x, 1, 46, 1, 1, 1, 2, 2);
         CHECKS.due("18: SHOWN", 7, x.shows(2));
         // A LAYING ahead of it in the same TURN: it goes on, and no CARD comes.
         x = at("18", y -> {
             dealt(2, 4, 4687, 30).accept(y);
             y.lay(set("10d 12d J"));
         }).taken("behind a LAYING", 0, y -> y.robot(0));
-        facts("18: no CARD came", x, 1, 46, 0, -1, 1, 0, 2);
+        CHECKS.told("18: no CARD came", x, 1, 46, 0, -1, 1, 0, 2);
         CHECKS.due("18: HAND", set("7a"), x.hand(0));
         robotLaysTheFirstCard();
     }
@@ -427,18 +403,18 @@ public final class OpeningBoundariesTest {
     /** "as long as it is not OVER ... then (if it is not OVER) the TURN ENDS" */
     private static void robotWins() {
         RummyTable x = at("18", dealt(2, 3, 987, 30)).taken("all of the HAND", 3, y -> y.robot(0));
-        facts("18: WON, the TURN has not ended", x, 0, 48, 1, 0, 0, 1, 2);
-        x = at("18", ended(4, 3, 91, 30, 3)).taken("all of the last HAND", 3, y -> y.robot(1));
-        facts("18: WON by the last", x, 3, 39, 1, 3, 3, 1, 4);
+        CHECKS.told("18: WON, the TURN has not ended", x, 0, 48, 1, 0, 0, 1, 2);
+        x = at("18", Boundary.ended(4, 3, 91, 30, 3)).taken("all of the last HAND", 3, y -> y.robot(1));
+        CHECKS.told("18: WON by the last", x, 3, 39, 1, 3, 3, 1, 4);
     }
 
     private static void robotAtTheEndOfTheRow() {
-        RummyTable x = at("18", ended(4, 13, 7, 200, 4)).taken("the last but one", 0, y -> y.robot(0));
-        facts("18: not OVER", x, 1, 0, 0, -1, 5, 0, 4);
-        x = at("18", ended(4, 13, 7, 200, 5)).taken("the last", 0, y -> y.robot(1));
-        facts("18: OVER", x, 2, 0, 1, -1, 6, 0, 4);
-        x = at("18", ended(4, 13, 14, 30, 5)).made();
+        RummyTable x = at("18", Boundary.ended(4, 13, 7, 200, 4)).taken("the last but one", 0, y -> y.robot(0));
+        CHECKS.told("18: not OVER", x, 1, 0, 0, -1, 5, 0, 4);
+        x = at("18", Boundary.ended(4, 13, 7, 200, 5)).taken("the last", 0, y -> y.robot(1));
+        CHECKS.told("18: OVER", x, 2, 0, 1, -1, 6, 0, 4);
+        x = at("18", Boundary.ended(4, 13, 14, 30, 5)).made();
         CHECKS.due("18: it lays", true, x.robot(1) > 0);
-        facts("18: the row is broken", x, 2, 0, 0, -1, 6, 0, 4);
+        CHECKS.told("18: the row is broken", x, 2, 0, 0, -1, 6, 0, 4);
     }
 }

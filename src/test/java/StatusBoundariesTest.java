@@ -16,10 +16,7 @@ public final class StatusBoundariesTest {
         x.lay(set("10d 12d J"));
         x.end();
     };
-    private static final Consumer<RummyTable> WON = x -> {
-        x.deal(2, 3, 987);
-        x.lay(set("10a 10b 10c"));
-    };
+    private static final Consumer<RummyTable> WON = Boundary::won;
     private static final Consumer<RummyTable> RUN_OUT = x -> {
         x.deal(4, 13, 7);
         for (int i = 0; i < 6; i++) {
