@@ -2,6 +2,7 @@
 public final class BestBoundariesTest {
     private static final Checks CHECKS = new Checks();
     private static final int[] NO_AIMS = {Integer.MIN_VALUE, -2, -1, 2, 3, Integer.MAX_VALUE};
+    private static final String RUN_OF_13 = "1b 2b 3b 4b 5b 6b 7b 8b 9b 10b 11b 12b 13b";
     private static RummyTable x;
 
     public static void main(String[] args) {
@@ -173,6 +174,9 @@ public final class BestBoundariesTest {
         // As many CARDS with a JOKER as without: CARDS have lesser numbers than JOKERS.
         best("", "5a 5b 5c 5d J", 0, "5a 5b 5c 5d");
         best("", "5a 5b 5c 5d J", 1, "5a 5b 5c J");
+        // 13 CARDS, with the JOKER beside 11a 11b or without it: 11a is ahead of 12b, 3a is not ahead of 1b.
+        best("", "11a J " + RUN_OF_13, 0, "1b 2b 3b 4b 5b 6b 7b 8b 9b 10b 11a 11b J");
+        best("", "3a J " + RUN_OF_13, 0, RUN_OF_13);
     }
 
     private static void jokersThatMustBeLaid() {

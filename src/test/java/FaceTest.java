@@ -7,6 +7,7 @@ import java.nio.file.Files;
 import java.nio.file.Path;
 import java.util.Set;
 import java.util.TreeSet;
+import java.util.regex.Matcher;
 import java.util.regex.Pattern;
 
 /** The public face is that of the document, and the file keeps to what of LANGUAGE.md can be read off it. */
@@ -35,6 +36,7 @@ public final class FaceTest {
         Set<String> names = new TreeSet<>();
         for (Method method : face.getDeclaredMethods()) {
             if (Modifier.isPublic(method.getModifiers())) {
+                CHECKS.due(method + " is public alone", Modifier.PUBLIC, method.getModifiers());
                 found.add(written(method));
                 names.add(method.getName());
             } else {
@@ -54,11 +56,28 @@ public final class FaceTest {
         Constructor<?>[] made = face.getDeclaredConstructors();
         CHECKS.due("constructors", 1, made.length);
         CHECKS.due("its parameters", 0, made[0].getParameterCount());
-        for (Field field : face.getDeclaredFields()) {
-            boolean shown = Modifier.isPublic(field.getModifiers());
-            CHECKS.due(field + " is private or NONE", true,
-                    shown ? field.getName().equals("NONE") : Modifier.isPrivate(field.getModifiers()));
+        CHECKS.due("it is public", Modifier.PUBLIC, made[0].getModifiers());
+        CHECKS.due("no class above it", true, face.getSuperclass() == Object.class);
+        CHECKS.due("no interface", 0, face.getInterfaces().length);
+        constants();
+    }
+
+    private static void constants() {
+        int constants = 0;
+        int fields = 0;
+        for (Field field : RummyTable.class.getDeclaredFields()) {
+            if (Modifier.isPublic(field.getModifiers())) {
+                constants++;
+                CHECKS.due(field + " is NONE", true, field.toString().equals(
+                        "public static final int RummyTable.NONE"));
+            } else {
+                CHECKS.due(field + " is private", true, Modifier.isPrivate(field.getModifiers()));
+            }
+            fields += Modifier.isStatic(field.getModifiers()) ? 0 : 1;
         }
+        CHECKS.due("public constants", 1, constants);
+        CHECKS.due("NONE", -1, RummyTable.NONE);
+        CHECKS.due("at most 20 fields", true, fields <= 20);
     }
 
     private static String written(Method method) {
@@ -95,11 +114,31 @@ public final class FaceTest {
             CHECKS.due("'" + word + "' in the file", false, Pattern.compile("\\b" + word + "\\b").matcher(code).find());
         }
         CHECKS.due("no lambda, no method reference", false, code.contains("->") || code.contains("::"));
+        methodsAreShort(text);
         CHECKS.due("plain signs", true, text.chars().allMatch(c -> c == '\n' || c >= 32 && c < 127));
         for (String line : code.split("\n")) {
             if (line.startsWith("import ")) {
                 CHECKS.due(line, true, line.equals("import java.util.Arrays;"));
             }
         }
+    }
+
+    /** A method begins at 4 signs, or at 8 inside a nested class, and ends with a brace below its beginning. */
+    private static void methodsAreShort(String text) {
+        Pattern begins = Pattern.compile("( {4}| {8})(?!if|for|while|switch|\\}|\\w+ class)\\w.*\\) \\{");
+        String[] lines = text.split("\n");
+        int found = 0;
+        for (int i = 0; i < lines.length; i++) {
+            Matcher matcher = begins.matcher(lines[i]);
+            if (matcher.matches()) {
+                found++;
+                int last = i;
+                while (last < lines.length && !lines[last].equals(matcher.group(1) + "}")) {
+                    last++;
+                }
+                CHECKS.due(lines[i].trim() + " is short", true, last - i < 60);
+            }
+        }
+        CHECKS.due("methods were found", true, found > FACE.length);
     }
 }
